@@ -14,6 +14,7 @@ public final class GridTest {
         numbers();
         prices();
         words();
+        lastCorner();
         Checks.end();
     }
 
@@ -90,11 +91,13 @@ public final class GridTest {
         x.buy(1);
         x.guess(2, 'x');
         x.guess(20, 'y');
+        x.guess(26, 'w');
         Checks.row(x, 5, "aa");
         Checks.due("bought guess is gone", x.number(1, 1), -5);
         Checks.due("nothing is fixed", x.number(1, 3), 0);
         Checks.due("guess is gone", x.number(2, 1), -5);
         Checks.due("guess without cells is gone", x.number(20, 1), -5);
+        Checks.due("guess of the last number is gone", x.number(26, 1), -5);
         Checks.due("coins stay", x.count(3), 28);
         Checks.due("bought stays", x.count(8), 1);
         x.undo();
@@ -282,6 +285,10 @@ public final class GridTest {
         Checks.due("one guessed", x.word(0, 4), 1);
         Checks.due("one fits", x.word(0, 5), 1);
         Checks.due("zy", x.word(0, 6), 2);
+        x.dropWord(0);
+        Checks.due("the first of all", x.word(0, 6), 1);
+        x.dropWord(0);
+        Checks.due("zy is the first of all", x.word(0, 6), 0);
         x.guess(1, 'q');
         Checks.due("none fits", x.word(0, 5), 0);
         Checks.due("none first", x.word(0, 6), -5);
@@ -295,6 +302,32 @@ public final class GridTest {
         }
         Checks.refused("what 7", GridTest::two, y -> y.word(0, 7), -2);
         Checks.refused("what -1", GridTest::two, y -> y.word(1, -1), -2);
+    }
+
+    /** Words that end in the last cell, with nothing behind them but the next row, or nothing at all. */
+    private static void lastCorner() {
+        SoldLetters x = Checks.plain();
+        Checks.row(x, 0, "zz");
+        Checks.row(x, 1, "z");
+        Checks.row(x, 0, ".....ab");
+        Checks.row(x, 5, "......c");
+        Checks.row(x, 6, ".....de");
+        Checks.due("three words", x.count(1), 3);
+        x.guess(26, 'q');
+        Checks.due("two cells are without a guess", x.word(0, 4), 0);
+        Checks.due("none wrong", x.check(0), 0);
+        Checks.due("none of those is z", x.number(26, 4), 0);
+        Checks.words(x, "xy,vw");
+        Checks.due("x, v across and the other way down", x.listed(0, 1), 3);
+        Checks.due("two letters' prices", x.listed(0, 2), 4);
+        Checks.due("two numbers", x.guessWord(1, 0), 2);
+        Checks.due("d", x.cell(6, 5, 1), 'x');
+        Checks.due("e", x.cell(6, 6, 1), 'y');
+        Checks.due("e is guessed in the word down", x.word(2, 4), 1);
+        Checks.due("and wrong", x.check(2), 1);
+        Checks.due("vw, xy do not fit it", x.word(2, 5), 0);
+        Checks.due("c is free", x.could(3, 0), 23);
+        Checks.due("its words", x.number(5, 4), 2);
     }
 
     private static void two(SoldLetters x) {

@@ -24,6 +24,7 @@ public final class ListTest {
         Checks.due("those already there don't come", Checks.words(x, "abc,zz,xy,zzz"), 2);
         Checks.due("the same word twice comes once", Checks.words(x, "qq,pp,qq,pp,qq"), 2);
         Checks.due("seven words", x.count(2), 7);
+        Checks.due("unlike in one letter alone", Checks.words(new SoldLetters(), "xy,xx,yy,yx,xyx,xyy"), 6);
         int[] lengths = {2, 7, 3, 2, 3, 2, 2};
         for (int listed = 0; listed < lengths.length; listed++) {
             Checks.due("letters of " + listed, x.listed(listed, 0), lengths[listed]);
@@ -96,6 +97,7 @@ public final class ListTest {
         Checks.row(letters, 0, "fgh");
         letters.guessWord(0, 1);
         Checks.due("the letters move too", letters.number(7, 1), 'g');
+        dropped();
         SoldLetters full = new SoldLetters();
         Checks.words(full, TWELVE);
         Checks.due("of twelve", full.dropWord(11), 11);
@@ -105,6 +107,37 @@ public final class ListTest {
             Checks.refused("dropWord(" + far + ")", y -> Checks.words(y, "ab,cd"), y -> y.dropWord(far), -1);
         }
         Checks.refused("of none", y -> { }, y -> y.dropWord(0), -1);
+    }
+
+    /** A word that is gone, from the list or the grid, fits nothing any more. */
+    private static void dropped() {
+        SoldLetters x = Checks.plain();
+        Checks.row(x, 0, "ab.cd");
+        Checks.words(x, "xyz,pq");
+        x.dropWord(1);
+        Checks.due("none fits", x.word(0, 5), 0);
+        Checks.due("no first", x.word(0, 6), -5);
+        Checks.due("all letters", x.could(1, 0), 26);
+        Checks.words(x, "rs");
+        Checks.due("two words", x.listed(1, 1), 2);
+        Checks.row(x, 0, "ab");
+        Checks.due("one word", x.listed(1, 1), 1);
+        Checks.row(x, 0, "aba");
+        Checks.due("none", x.listed(1, 1), 0);
+        Checks.due("no price", x.listed(1, 2), -5);
+        x.dropWord(0);
+        x.undo();
+        Checks.row(x, 0, "abc");
+        x.guessWord(0, 0);
+        Checks.due("the letters are back with undo", x.cell(0, 2, 1), 'z');
+        SoldLetters y = Checks.plain();
+        Checks.row(y, 0, "ab");
+        Checks.words(y, TWELVE);
+        Checks.due("a full list", y.word(0, 5), 11);
+        Checks.due("the second", y.word(0, 6), 1);
+        Checks.due("what eleven have", y.could(2, 0), 11);
+        Checks.row(y, 0, "abcde");
+        Checks.due("none of a full list", y.word(0, 6), -5);
     }
 
     private static void fitting() {
@@ -197,6 +230,9 @@ public final class ListTest {
         x.guess(26, 'b');
         Checks.due("but those that are guessed", x.could(1, 0), 24);
         Checks.due("c is the lowest", x.could(1, 1), 'c');
+        x.guess(25, 'z');
+        Checks.due("but z too", x.could(1, 0), 23);
+        x.undo();
         Checks.words(x, "xyz");
         Checks.due("a list of none that fits does not matter", x.could(1, 0), 24);
         Checks.words(x, "pa,oa,op");

@@ -292,5 +292,18 @@ public final class PlayTest {
         Checks.due("bought", x.count(7), 1);
         Checks.row(x, 0, ".");
         Checks.due("without cells", x.count(7), 0);
+        Checks.row(x, 0, "z");
+        x.guess(26, 'y');
+        Checks.due("one cell, wrong", x.count(7), 0);
+        x.guess(26, 'z');
+        Checks.due("one cell, right", x.count(7), 1);
+        Checks.due("one number", x.count(4), 1);
+        Checks.due("with a guess", x.count(5), 1);
+        Checks.row(x, 0, "......a");
+        x.guess(1, 'a');
+        Checks.due("one cell at the end of a row", x.count(7), 1);
+        Checks.row(x, 0, "ba");
+        x.guess(1, 'a');
+        Checks.due("but the first cell", x.count(7), 0);
     }
 }
