@@ -328,6 +328,11 @@ public final class GridTest {
         Checks.due("vw, xy do not fit it", x.word(2, 5), 0);
         Checks.due("c is free", x.could(3, 0), 23);
         Checks.due("its words", x.number(5, 4), 2);
+        Checks.row(x, 0, ".");
+        Checks.due("the first that fits ends in the last cell", x.listed(0, 2), 4);
+        Checks.row(x, 0, ".....ab");
+        Checks.row(x, 1, "z");
+        Checks.due("z of the next row costs nothing", x.listed(0, 2), 4);
     }
 
     private static void two(SoldLetters x) {

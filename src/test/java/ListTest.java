@@ -122,6 +122,9 @@ public final class ListTest {
         Checks.due("two words", x.listed(1, 1), 2);
         Checks.row(x, 0, "ab");
         Checks.due("one word", x.listed(1, 1), 1);
+        Checks.row(x, 0, ".");
+        Checks.due("none of no words", x.listed(1, 1), 0);
+        Checks.due("no price of no words", x.listed(1, 2), -5);
         Checks.row(x, 0, "aba");
         Checks.due("none", x.listed(1, 1), 0);
         Checks.due("no price", x.listed(1, 2), -5);
@@ -138,6 +141,14 @@ public final class ListTest {
         Checks.due("what eleven have", y.could(2, 0), 11);
         Checks.row(y, 0, "abcde");
         Checks.due("none of a full list", y.word(0, 6), -5);
+        Checks.row(y, 0, "ab");
+        y.dropWord(0);
+        y.undo();
+        y.guessWord(0, 10);
+        Checks.due("the last ones' letters are back with undo", y.cell(0, 1, 1), 'k');
+        Checks.row(y, 0, "aa");
+        Checks.row(y, 0, ".");
+        Checks.due("a word that is gone", y.listed(0, 2), -5);
     }
 
     private static void fitting() {
