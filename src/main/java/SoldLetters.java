@@ -878,7 +878,7 @@ public final class SoldLetters {
         /** The index of the fault as a row, or -1. */
         int faultAsRow() {
             for (int i = 0; i < length; i++) {
-                if (i >= SIDE || !isLetter(characters[i]) && characters[i] != '.') {
+                if (i >= SIDE || (!isLetter(characters[i]) && characters[i] != '.')) {
                     return i;
                 }
             }
