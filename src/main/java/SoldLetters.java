@@ -49,7 +49,7 @@ public final class SoldLetters {
         if (fault >= 0) {
             return FAULT - fault;
         }
-        record();
+        remember();
         for (int column = 0; column < SIDE; column++) {
             state.letters[row * SIDE + column] = text.letterInRow(column);
         }
@@ -65,7 +65,7 @@ public final class SoldLetters {
         if (state.factor == factor && state.shift == shift) {
             return NONE;
         }
-        record();
+        remember();
         state.factor = factor;
         state.shift = shift;
         state.forgetGuesses();
@@ -84,7 +84,7 @@ public final class SoldLetters {
         if (coming == 0) {
             return NONE;
         }
-        record();
+        remember();
         for (int i = 0; i < text.length; i++) {
             if (text.startsWord(i) && !isListed(i)) {
                 appendToList(i);
@@ -97,7 +97,7 @@ public final class SoldLetters {
         if (!isInList(word)) {
             return UNKNOWN;
         }
-        record();
+        remember();
         state.removeListed(word);
         return state.listSize;
     }
@@ -118,7 +118,7 @@ public final class SoldLetters {
         if (state.guesses[number] == guessed) {
             return NONE;
         }
-        record();
+        remember();
         state.guesses[number] = guessed;
         return state.guessedCells();
     }
@@ -133,7 +133,7 @@ public final class SoldLetters {
         if (guessedCellsOf(word) == words.lengths[word]) {
             return NONE;
         }
-        record();
+        remember();
         int given = 0;
         for (int place = 0; place < words.lengths[word]; place++) {
             int number = numberIn(word, place);
@@ -156,7 +156,7 @@ public final class SoldLetters {
         if (state.cellsWith(number) == 0) {
             return NONE;
         }
-        record();
+        remember();
         int letter = state.letterOf(number);
         int before = state.numberGuessedAs(letter);
         if (isNumber(before)) {
@@ -176,7 +176,7 @@ public final class SoldLetters {
         if (state.coins == 0) {
             return NOT_POSSIBLE;
         }
-        record();
+        remember();
         state.coins--;
         state.checks++;
         int wrong = 0;
@@ -197,7 +197,7 @@ public final class SoldLetters {
         if (state.coins == MOST_COINS) {
             return NONE;
         }
-        record();
+        remember();
         state.coins = Math.min(MOST_COINS, state.coins + coins);
         return state.coins;
     }
@@ -239,7 +239,7 @@ public final class SoldLetters {
         if (!hasSnapshot) {
             return NONE;
         }
-        record();
+        remember();
         bringBack(snapshot);
         return state.coins;
     }
@@ -418,7 +418,7 @@ public final class SoldLetters {
     }
 
     /** The oldest state gives up its room to the newest one when there is no other. */
-    private void record() {
+    private void remember() {
         if (states == MOST_STATES) {
             State oldest = history[0];
             for (int i = 1; i < MOST_STATES; i++) {
