@@ -3,16 +3,13 @@ public final class GridTest {
     public static void main(String[] args) {
         newObject();
         rows();
-        rowFaults();
         rowsForgetGuesses();
         keys();
         keyForgetsGuesses();
-        keyRefusals();
         wordsInOrder();
         mostWords();
         cells();
         numbers();
-        prices();
         words();
         lastCorner();
         Checks.end();
@@ -61,30 +58,6 @@ public final class GridTest {
         Checks.due("and its word", x.count(1), 1);
     }
 
-    private static void rowFaults() {
-        String[] texts = {"", "A", "aB", "ab,cd", "abc...!", "abcdefgh", "abcdefg.", ".......a", "abc{", "abc`", "ab\u00e9", "abcdef\u1234", "ab cdefghi"};
-        int[] faults = {0, 0, 1, 2, 6, 7, 7, 7, 3, 3, 2, 6, 2};
-        for (int i = 0; i < texts.length; i++) {
-            String text = texts[i];
-            Checks.refused("row " + text, x -> { some(x); Checks.text(x, text); }, x -> x.setRow(2), -100 - faults[i]);
-            Checks.refused("UNKNOWN before the fault of " + text, x -> Checks.text(x, text), x -> x.setRow(-1), -1);
-        }
-        Checks.refused("row 7", GridTest::some, x -> x.setRow(7), -1);
-        Checks.refused("row -1", GridTest::some, x -> x.setRow(-1), -1);
-        Checks.refused("least row", GridTest::some, x -> x.setRow(Integer.MIN_VALUE), -1);
-        Checks.refused("greatest row", GridTest::some, x -> x.setRow(Integer.MAX_VALUE), -1);
-    }
-
-    private static void some(SoldLetters x) {
-        Checks.words(x, "abc,ab");
-        Checks.row(x, 0, "abcab");
-        Checks.row(x, 1, "b.a");
-        x.keep();
-        x.buy(4);
-        x.guess(11, 'z');
-        Checks.text(x, "abc");
-    }
-
     private static void rowsForgetGuesses() {
         SoldLetters x = Checks.plain();
         Checks.row(x, 0, "abc");
@@ -107,21 +80,6 @@ public final class GridTest {
     }
 
     private static void keys() {
-        int[] factors = {1, 3, 5, 7, 9, 11, 15, 17, 19, 21, 23, 25};
-        for (int factor : factors) {
-            SoldLetters x = new SoldLetters();
-            Checks.row(x, 0, "abcdefg");
-            Checks.row(x, 1, "hijklmn");
-            Checks.row(x, 2, "opqrstu");
-            Checks.row(x, 3, "vwxyz");
-            Checks.due("setKey(" + factor + ", 25)", x.setKey(factor, 25), 26);
-            for (int letter = 0; letter < 26; letter++) {
-                Checks.due("number under " + factor, x.cell(letter / 7, letter % 7, 0), (factor * letter + 25) % 26 + 1);
-                Checks.due("each once", x.number(letter + 1, 0), 1);
-            }
-            Checks.due("factor", x.count(10), factor);
-            Checks.due("shift", x.count(11), 25);
-        }
         SoldLetters y = new SoldLetters();
         Checks.row(y, 0, "az");
         Checks.due("a at first", y.cell(0, 0, 0), 4);
@@ -147,18 +105,6 @@ public final class GridTest {
             Checks.due("gone", x.number(number, 1), -5);
             Checks.due("free", x.number(number, 3), 0);
         }
-    }
-
-    private static void keyRefusals() {
-        int[] bad = {Integer.MIN_VALUE, -7, -1, 0, 2, 4, 13, 24, 26, 27, 33, Integer.MAX_VALUE};
-        for (int factor : bad) {
-            Checks.refused("factor " + factor, GridTest::some, x -> x.setKey(factor, 3), -2);
-        }
-        int[] badShifts = {Integer.MIN_VALUE, -1, 26, Integer.MAX_VALUE};
-        for (int shift : badShifts) {
-            Checks.refused("shift " + shift, GridTest::some, x -> x.setKey(7, shift), -2);
-        }
-        Checks.refused("the same key", GridTest::some, x -> x.setKey(7, 3), -5);
     }
 
     private static void wordsInOrder() {
@@ -215,16 +161,6 @@ public final class GridTest {
             }
         }
         Checks.due("last cell", x.cell(6, 6, 0), -5);
-        int[] outside = {Integer.MIN_VALUE, -1, 7, Integer.MAX_VALUE};
-        for (int far : outside) {
-            Checks.refused("row " + far, GridTest::some, y -> y.cell(far, 0, 0), -1);
-            Checks.refused("column " + far, GridTest::some, y -> y.cell(0, far, 0), -1);
-            Checks.refused("UNKNOWN before BAD_VALUE", GridTest::some, y -> y.cell(far, far, 4), -1);
-        }
-        Checks.refused("what 4", GridTest::some, y -> y.cell(0, 0, 4), -2);
-        Checks.refused("what -1", GridTest::some, y -> y.cell(0, 0, -1), -2);
-        Checks.refused("what 4 of a black cell", GridTest::some, y -> y.cell(6, 6, 4), -2);
-        Checks.refused("NONE", GridTest::some, y -> y.cell(6, 6, 0), -5);
     }
 
     private static void numbers() {
@@ -247,27 +183,6 @@ public final class GridTest {
         Checks.row(x, 2, ".");
         Checks.due("a cell in no word has a number", x.number(3, 0), 1);
         Checks.due("but its number no word", x.number(3, 4), 0);
-        int[] outside = {Integer.MIN_VALUE, -1, 0, 27, Integer.MAX_VALUE};
-        for (int far : outside) {
-            Checks.refused("number " + far, GridTest::some, y -> y.number(far, 0), -1);
-            Checks.refused("UNKNOWN before BAD_VALUE", GridTest::some, y -> y.number(far, 5), -1);
-        }
-        Checks.refused("what 5", GridTest::some, y -> y.number(1, 5), -2);
-        Checks.refused("what -1", GridTest::some, y -> y.number(26, -1), -2);
-    }
-
-    private static void prices() {
-        SoldLetters x = Checks.plain();
-        Checks.due("without cells", x.number(1, 2), 1);
-        Checks.row(x, 0, "aaaaaaa");
-        Checks.due("of seven cells", x.number(1, 2), 8);
-        Checks.row(x, 1, "a");
-        Checks.due("of eight cells", x.number(1, 2), 9);
-        Checks.row(x, 1, "aa");
-        Checks.due("of nine cells", x.number(1, 2), 9);
-        Checks.row(x, 2, "aaaaaaa");
-        Checks.due("of sixteen cells", x.number(1, 2), 9);
-        Checks.due("sixteen", x.number(1, 0), 16);
     }
 
     private static void words() {
@@ -295,13 +210,6 @@ public final class GridTest {
         Checks.row(x, 0, "aabaa");
         x.guess(1, 'z');
         Checks.due("cells, not numbers", x.word(0, 4), 4);
-        int[] outside = {Integer.MIN_VALUE, -1, 2, 28, Integer.MAX_VALUE};
-        for (int far : outside) {
-            Checks.refused("word " + far, GridTest::two, y -> y.word(far, 0), -1);
-            Checks.refused("UNKNOWN before BAD_VALUE", GridTest::two, y -> y.word(far, 7), -1);
-        }
-        Checks.refused("what 7", GridTest::two, y -> y.word(0, 7), -2);
-        Checks.refused("what -1", GridTest::two, y -> y.word(1, -1), -2);
     }
 
     /** Words that end in the last cell, with nothing behind them but the next row, or nothing at all. */
@@ -333,9 +241,5 @@ public final class GridTest {
         Checks.row(x, 0, ".....ab");
         Checks.row(x, 1, "z");
         Checks.due("z of the next row costs nothing", x.listed(0, 2), 4);
-    }
-
-    private static void two(SoldLetters x) {
-        Checks.row(x, 0, "ab.cd");
     }
 }

@@ -1,18 +1,11 @@
 /** Promises 4 (addWords), 5 (dropWord), 19 (fits), 20 (listed) and 21 (could). */
 public final class ListTest {
-    private static final String TWELVE = "aa,ab,ac,ad,ae,af,ag,ah,ai,aj,ak,al";
-
     public static void main(String[] args) {
         adding();
-        faults();
-        fullList();
-        nothingNew();
         dropping();
         fitting();
-        fittingRefusals();
         listed();
         could();
-        couldRefusals();
         Checks.end();
     }
 
@@ -44,38 +37,6 @@ public final class ListTest {
         Checks.due("none is left", y.count(2), 0);
     }
 
-    private static void faults() {
-        String[] texts = {"", ",", "a", "a,bc", "ab,", "ab,c", "ab,,cd", "ab,cd.", "abcdefgh", "ab,abcdefgh", "Ab", "aB", "ab cd", "ab;cd", "abcdefg,a", "ab\u00fc", "ab{"};
-        int[] faults = {0, 0, 1, 1, 3, 4, 3, 5, 7, 10, 0, 1, 2, 2, 9, 2, 2};
-        for (int i = 0; i < texts.length; i++) {
-            String text = texts[i];
-            Checks.refused("words " + text, x -> Checks.text(x, text), SoldLetters::addWords, -100 - faults[i]);
-            Checks.refused("the fault is told before FULL: " + text, x -> { Checks.words(x, TWELVE); Checks.text(x, text); }, SoldLetters::addWords, -100 - faults[i]);
-        }
-        String sixty = "ab,cd,ef,gh,ij,kl,mn,op,qr,st,uv,wx,yz,ab,cd,ef,gh,ij,kl,mn,";
-        Checks.refused("sixty that end too early", x -> Checks.text(x, sixty), SoldLetters::addWords, -160);
-    }
-
-    private static void fullList() {
-        SoldLetters x = new SoldLetters();
-        Checks.due("twelve", Checks.words(x, TWELVE), 12);
-        Checks.refused("thirteenth", y -> { Checks.words(y, TWELVE); Checks.text(y, "bb"); }, SoldLetters::addWords, -3);
-        Checks.refused("FULL, though one is there", y -> { Checks.words(y, TWELVE); Checks.text(y, "aa,bb"); }, SoldLetters::addWords, -3);
-        Checks.refused("thirteen at once", y -> Checks.text(y, TWELVE + ",bb"), SoldLetters::addWords, -3);
-        Checks.refused("none comes to a full list", y -> Checks.words(y, TWELVE), SoldLetters::addWords, -5);
-        SoldLetters z = new SoldLetters();
-        Checks.due("thirteen, one of them twice", Checks.words(z, TWELVE + ",aa"), 12);
-        SoldLetters w = new SoldLetters();
-        Checks.words(w, "aa,ab,ac");
-        Checks.due("up to twelve, with those there already", Checks.words(w, TWELVE), 9);
-        Checks.due("twelve", w.count(2), 12);
-    }
-
-    private static void nothingNew() {
-        Checks.refused("already there", x -> Checks.words(x, "ab,cd"), SoldLetters::addWords, -5);
-        Checks.refused("one of them", x -> { Checks.words(x, "ab,cd"); Checks.text(x, "cd,cd"); }, SoldLetters::addWords, -5);
-    }
-
     private static void dropping() {
         SoldLetters x = new SoldLetters();
         Checks.words(x, "ab,abc,abcd,abcde,abcdef");
@@ -99,14 +60,9 @@ public final class ListTest {
         Checks.due("the letters move too", letters.number(7, 1), 'g');
         dropped();
         SoldLetters full = new SoldLetters();
-        Checks.words(full, TWELVE);
+        Checks.words(full, Games.TWELVE);
         Checks.due("of twelve", full.dropWord(11), 11);
         Checks.due("room again", Checks.words(full, "zz"), 1);
-        int[] outside = {Integer.MIN_VALUE, -1, 2, 12, Integer.MAX_VALUE};
-        for (int far : outside) {
-            Checks.refused("dropWord(" + far + ")", y -> Checks.words(y, "ab,cd"), y -> y.dropWord(far), -1);
-        }
-        Checks.refused("of none", y -> { }, y -> y.dropWord(0), -1);
     }
 
     /** A word that is gone, from the list or the grid, fits nothing any more. */
@@ -135,7 +91,7 @@ public final class ListTest {
         Checks.due("the letters are back with undo", x.cell(0, 2, 1), 'z');
         SoldLetters y = Checks.plain();
         Checks.row(y, 0, "ab");
-        Checks.words(y, TWELVE);
+        Checks.words(y, Games.TWELVE);
         Checks.due("a full list", y.word(0, 5), 11);
         Checks.due("the second", y.word(0, 6), 1);
         Checks.due("what eleven have", y.could(2, 0), 11);
@@ -185,21 +141,6 @@ public final class ListTest {
         Checks.due(what + ", guessWord says", x.guessWord(0, 0) == -4 ? 0 : 1, due ? 1 : 0);
     }
 
-    private static void fittingRefusals() {
-        int[] outside = {Integer.MIN_VALUE, -1, 1, Integer.MAX_VALUE};
-        for (int far : outside) {
-            Checks.refused("fits word " + far, ListTest::one, x -> x.fits(far, 0), -1);
-            Checks.refused("fits listed " + far, ListTest::one, x -> x.fits(0, far), -1);
-            Checks.refused("fits neither " + far, ListTest::one, x -> x.fits(far, far), -1);
-        }
-        Checks.refused("fits of nothing", x -> { }, x -> x.fits(0, 0), -1);
-    }
-
-    private static void one(SoldLetters x) {
-        Checks.words(x, "xyz");
-        Checks.row(x, 0, "abc");
-    }
-
     private static void listed() {
         SoldLetters x = Checks.plain();
         Checks.words(x, "xy,xyx,pqrst");
@@ -222,14 +163,6 @@ public final class ListTest {
         Checks.row(x, 1, "..aab");
         Checks.words(x, "xxy");
         Checks.due("at most nine each", x.listed(3, 2), 9 + 2);
-        int[] outside = {Integer.MIN_VALUE, -1, 1, 12, Integer.MAX_VALUE};
-        for (int far : outside) {
-            Checks.refused("listed " + far, ListTest::one, y -> y.listed(far, 0), -1);
-            Checks.refused("UNKNOWN before BAD_VALUE", ListTest::one, y -> y.listed(far, 3), -1);
-        }
-        Checks.refused("what 3", ListTest::one, y -> y.listed(0, 3), -2);
-        Checks.refused("what -1", ListTest::one, y -> y.listed(0, -1), -2);
-        Checks.refused("NONE", y -> Checks.words(y, "ab"), y -> y.listed(0, 2), -5);
     }
 
     private static void could() {
@@ -276,19 +209,5 @@ public final class ListTest {
         Checks.row(y, 1, "d");
         Checks.due("x or p, no letter is both", y.could(1, 0), 0);
         Checks.due("no lowest", y.could(1, 1), -5);
-    }
-
-    private static void couldRefusals() {
-        int[] outside = {Integer.MIN_VALUE, -1, 0, 27, Integer.MAX_VALUE};
-        for (int far : outside) {
-            Checks.refused("could " + far, ListTest::one, x -> x.could(far, 0), -1);
-            Checks.refused("UNKNOWN before BAD_VALUE", ListTest::one, x -> x.could(far, 2), -1);
-        }
-        Checks.refused("what 2", ListTest::one, x -> x.could(4, 2), -2);
-        Checks.refused("what -1", ListTest::one, x -> x.could(4, -1), -2);
-        Checks.refused("BAD_VALUE before NONE", ListTest::one, x -> x.could(5, 2), -2);
-        Checks.refused("no cell has it", ListTest::one, x -> x.could(5, 0), -5);
-        Checks.refused("no cell has it, lowest", ListTest::one, x -> x.could(5, 1), -5);
-        Checks.refused("it has a guess", x -> { one(x); x.guess(4, 'z'); }, x -> x.could(4, 0), -5);
     }
 }
