@@ -60,10 +60,13 @@ public final class FaceTest {
             if (member instanceof Field && isPublic) {
                 constants++;
                 Checks.isTrue(member + " is a constant", Modifier.isStatic(member.getModifiers()) && Modifier.isFinal(member.getModifiers()));
+                Checks.isTrue(member + " is an int", ((Field) member).getType() == int.class);
             }
         }
         Checks.due("public constants", constants, 5);
         Checks.due("constructors", SoldLetters.class.getDeclaredConstructors().length, 1);
+        Checks.due("public constructors", SoldLetters.class.getConstructors().length, 1);
+        Checks.due("parameters of the constructor", SoldLetters.class.getConstructors()[0].getParameterCount(), 0);
         for (Class<?> inside : SoldLetters.class.getDeclaredClasses()) {
             Checks.isTrue(inside + " is static", Modifier.isStatic(inside.getModifiers()));
         }

@@ -153,8 +153,12 @@ final class Portrait {
         return (int) letters.chars().distinct().count();
     }
 
-    /** The text as a row, and as words: they are added to the list when all others have left it. */
+    /**
+     * The text as a row, and as words: they are added to the list when all others have left it. Both are asked, as
+     * the fault of one need not be that of the other; and the length, which can be told even behind both faults.
+     */
     private void text(String when, Checks.Script script) {
+        length(when, script);
         SoldLetters x = played(script);
         add(when + ", setRow", x.setRow(3));
         for (int column = 0; column < 7; column++) {
@@ -168,5 +172,16 @@ final class Portrait {
         };
         add(when + ", addWords", played(emptied).addWords());
         list(when, y -> { emptied.play(y); y.addWords(); });
+    }
+
+    /** As count, type and clearText tell it, and the empty text that clearText leaves. */
+    private void length(String when, Checks.Script script) {
+        add(when + ", count 13", played(script).count(13));
+        add(when + ", type", played(script).type('a'));
+        SoldLetters x = played(script);
+        add(when + ", clearText", x.clearText());
+        add(when + ", count 13 then", x.count(13));
+        add(when + ", setRow then", x.setRow(0));
+        add(when + ", addWords then", x.addWords());
     }
 }

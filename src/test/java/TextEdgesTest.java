@@ -19,7 +19,12 @@ public final class TextEdgesTest {
         firstFaultOfWords();
         sixtyCharactersOfWords();
         theSameTextBothWays();
+        lengthBehindAFault();
+        typedBehindAFault();
         theTextStays();
+        toldByWordsAlone();
+        toldByARowAlone();
+        fullUntilTwoWordsAreAlike();
         Checks.end();
     }
 
@@ -222,13 +227,72 @@ public final class TextEdgesTest {
         Checks.due("sixty characters, nine words", asWords(Games.SIXTY), 9);
     }
 
-    /** One text may be a row, words, both or neither. */
+    /** "The fault of the text, as a row or as words": one text may have both, one or none, and at unlike places. */
+    private static final String[] BOTH_WAYS = {
+        "", "a", "ab", "abcdefg", ".", ",", "A", "a.b", "a,b", "ab.", "ab.cd", "ab,cd", "ab,cd,", "ab.?", "ab,c?", "ab,?d.?",
+        "ab..cd,", "abcdefgh", "abcdefg,", "abcdefg,hi", "abcdefg.hi", ".abcdefgh", "abc,defg,hijklmno"};
+    private static final int[] AS_ROW = {
+        -100, 0, 1, 1, 0, -100, -100, 0, -101, 1, 2, -102, -102, -103, -102, -102,
+        -106, -107, -107, -107, -107, -107, -103};
+    private static final int[] AS_WORDS = {
+        -100, -101, 1, 1, -100, -100, -100, -101, -101, -102, -102, 2, -106, -102, -104, -103,
+        -102, -107, -108, 2, -107, -100, -116};
+
     private static void theSameTextBothWays() {
-        int[][] dues = {{1, 1}, {0, -101}, {1, -102}, {-102, 2}, {-107, -107}, {-100, -100}};
-        String[] texts = {"abcdefg", "a", "ab.", "ab,cd", "abcdefgh", "A"};
-        for (int i = 0; i < texts.length; i++) {
-            Checks.due(texts[i] + " as a row", asRow(texts[i]), dues[i][0]);
-            Checks.due(texts[i] + " as words", asWords(texts[i]), dues[i][1]);
+        for (int i = 0; i < BOTH_WAYS.length; i++) {
+            Checks.due(BOTH_WAYS[i] + " as a row", asRow(BOTH_WAYS[i]), AS_ROW[i]);
+            Checks.due(BOTH_WAYS[i] + " as words", asWords(BOTH_WAYS[i]), AS_WORDS[i]);
+            SoldLetters x = new SoldLetters();
+            Checks.text(x, BOTH_WAYS[i]);
+            for (int times = 0; times < 2; times++) {
+                Checks.due(BOTH_WAYS[i] + " as a row first", x.setRow(0), AS_ROW[i]);
+                int due = times == 1 && AS_WORDS[i] >= 0 ? SoldLetters.NONE : AS_WORDS[i];
+                Checks.due(BOTH_WAYS[i] + " as words then", x.addWords(), due);
+            }
+        }
+    }
+
+    /** "the length of the text", "the length of the text then", "the length that it had": all of it, whatever it is. */
+    private static void lengthBehindAFault() {
+        for (String text : BOTH_WAYS) {
+            int length = text.length();
+            SoldLetters x = new SoldLetters();
+            x.keep();
+            Checks.text(x, text);
+            Checks.due("length of " + text, x.count(13), length);
+            x.setRow(0);
+            Checks.due("length of " + text + " after setRow", x.count(13), length);
+            x.addWords();
+            Checks.due("length of " + text + " after addWords", x.count(13), length);
+            x.setRow(7);
+            x.undo();
+            x.restore();
+            Checks.due("length of " + text + " after undo and restore", x.count(13), length);
+            Checks.due("one more behind " + text, x.type('?'), length + 1);
+            Checks.due("length then", x.count(13), length + 1);
+            Checks.due("the length that it had", x.clearText(), length + 1);
+            Checks.due("empty", x.count(13), 0);
+            Checks.due("empty as a row", x.setRow(0), -100);
+            Checks.due("empty as words", x.addWords(), -100);
+        }
+    }
+
+    /** A fault stays the first one while characters that would be allowed come behind it, up to sixty. */
+    private static void typedBehindAFault() {
+        String[] beginnings = {"?", "ab.?", "ab,c?", "abcdefgh"};
+        int[][] faults = {{-100, -100}, {-103, -102}, {-102, -104}, {-107, -107}};
+        for (int i = 0; i < beginnings.length; i++) {
+            SoldLetters x = new SoldLetters();
+            Checks.text(x, beginnings[i]);
+            for (int length = beginnings[i].length() + 1; length <= 60; length++) {
+                Checks.due("typed behind " + beginnings[i], x.type("ab,".charAt(length % 3)), length);
+                Checks.due("as a row", x.setRow(0), faults[i][0]);
+                Checks.due("as words", x.addWords(), faults[i][1]);
+                Checks.due("length", x.count(13), length);
+            }
+            Checks.due("full behind " + beginnings[i], x.type('a'), SoldLetters.FULL);
+            Checks.due("length", x.count(13), 60);
+            Checks.due("the length that it had", x.clearText(), 60);
         }
     }
 
@@ -250,5 +314,53 @@ public final class TextEdgesTest {
         x.type('e');
         Checks.due("two words", x.addWords(), 2);
         Checks.due("length", x.count(13), 6);
+    }
+
+    /** A text that setRow refuses and addWords does not: all its letters are there, also behind the row's fault. */
+    private static void toldByWordsAlone() {
+        SoldLetters x = Checks.plain("abcdefg");
+        Checks.text(x, "zy,tuvwxyz");
+        Checks.due("refused as a row", x.setRow(1), -102);
+        Checks.due("one row still", x.count(0), 7);
+        Checks.due("two words", x.addWords(), 2);
+        Checks.due("refused again", x.setRow(1), -102);
+        Checks.due("the second one fits", x.guessWord(0, 1), 7);
+        for (int column = 0; column < 7; column++) {
+            Checks.due("letter " + column, x.cell(0, column, 1), 't' + column);
+        }
+        Checks.row(x, 0, "ab");
+        Checks.due("the first one fits", x.guessWord(0, 0), 2);
+        Checks.due("z", x.cell(0, 0, 1), 'z');
+        Checks.due("y", x.cell(0, 1, 1), 'y');
+    }
+
+    /** A text that addWords refuses and setRow does not: all its cells are there, also behind the words' fault. */
+    private static void toldByARowAlone() {
+        SoldLetters x = Checks.plain("zzzzzzz");
+        Checks.text(x, "ab.c.de");
+        Checks.due("refused as words", x.addWords(), -102);
+        Checks.due("no list", x.count(2), 0);
+        Checks.due("two words across", x.setRow(0), 2);
+        Checks.due("refused again", x.addWords(), -102);
+        int[] numbers = {1, 2, SoldLetters.NONE, 3, SoldLetters.NONE, 4, 5};
+        for (int column = 0; column < 7; column++) {
+            Checks.due("column " + column, x.cell(0, column, 0), numbers[column]);
+        }
+    }
+
+    /** The refused text of thirteen words stays whole: one letter more makes the last like the first, and twelve come. */
+    private static void fullUntilTwoWordsAreAlike() {
+        SoldLetters x = new SoldLetters();
+        Checks.text(x, "abc,aa,ac,ad,ae,af,ag,ah,ai,aj,ak,al,ab");
+        Checks.due("thirteen", x.addWords(), SoldLetters.FULL);
+        Checks.due("thirteen again", x.addWords(), SoldLetters.FULL);
+        Checks.due("no list", x.count(2), 0);
+        Checks.due("a letter more", x.type('c'), 40);
+        Checks.due("twelve", x.addWords(), 12);
+        Checks.due("none more", x.addWords(), SoldLetters.NONE);
+        Checks.due("abc is the first", x.listed(0, 0), 3);
+        Checks.due("al is the last", x.listed(11, 0), 2);
+        Checks.due("another letter", x.type('d'), 41);
+        Checks.due("abcd is a thirteenth", x.addWords(), SoldLetters.FULL);
     }
 }
