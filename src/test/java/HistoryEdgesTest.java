@@ -20,6 +20,7 @@ public final class HistoryEdgesTest {
         refusedCallsRecordNothing();
         aRowThatIsSoAlready();
         allOfAState();
+        theLastOfAState();
         theTextIsNoPart();
         theSnapshotIsNoPart();
         theHistoryIsNoPart();
@@ -220,6 +221,47 @@ public final class HistoryEdgesTest {
         Checks.due("list before", x.count(2), 3);
         Checks.due("checks before", x.count(9), 1);
         Checks.due("bought before", x.count(8), 2);
+    }
+
+    /** "everything": also the last cell, the last letters of the last word of a full list, and the last number. */
+    private static void theLastOfAState() {
+        String[] others = {"hijklmn", "hi", "tuvwxya"};
+        for (String other : others) {
+            SoldLetters x = Checks.plain("abcdefg", ".", ".", ".", ".", ".", "......z");
+            Checks.words(x, "aa,ab,ac,ad,ae,af,ag,ah,ai,aj,ak");
+            Checks.words(x, "tuvwxyz");
+            x.guess(26, 'b');
+            x.keep();
+            Checks.row(x, 6, "......y");
+            Checks.due("the last dropped", x.dropWord(11), 11);
+            Checks.due("another in its place", Checks.words(x, other), 1);
+            Checks.due("y is the last cell", x.cell(6, 6, 0), 25);
+            Checks.due("undo", x.undo(), 3);
+            Checks.due("undo", x.undo(), 2);
+            lastWord("undone", x);
+            Checks.due("y is the last cell", x.cell(6, 6, 0), 25);
+            Checks.due("undo", x.undo(), 1);
+            Checks.due("z is the last cell", x.cell(6, 6, 0), 26);
+            Checks.due("dropped again", x.dropWord(11), 11);
+            Checks.due("another in its place", Checks.words(x, other), 1);
+            Checks.row(x, 6, "......y");
+            x.guess(26, 'c');
+            x.restore();
+            Checks.due("z is restored", x.cell(6, 6, 0), 26);
+            Checks.due("b is restored", x.cell(6, 6, 1), 'b');
+            x.guess(26, '.');
+            lastWord("restored", x);
+        }
+    }
+
+    /** Word 0 has seven cells without a guess, and the twelfth of the list must be tuvwxyz. */
+    private static void lastWord(String when, SoldLetters x) {
+        Checks.due("letters " + when, x.listed(11, 0), 7);
+        Checks.due("numbers " + when, x.guessWord(0, 11), 7);
+        for (int column = 0; column < 7; column++) {
+            Checks.due("letter " + column + " " + when, x.cell(0, column, 1), 't' + column);
+        }
+        Checks.due("undo of guessWord", x.undo(), x.count(12));
     }
 
     /** "everything but the text": undo and restore leave what is typed and what is cleared. */
