@@ -18,10 +18,10 @@ public final class CoinEdgesTest {
     /** An object of the rows that has so many coins, of at most 999; it has a word 0, and numbers from a, 1, to z, 26. */
     private static SoldLetters withCoins(int coins, String... rows) {
         SoldLetters x = Checks.plain(rows);
-        while (x.count(3) > coins) {
+        for (int i = 0; i < 30 && x.count(3) > coins; i++) {
             x.check(0);
         }
-        while (x.count(3) < coins) {
+        for (int i = 0; i < 10 && x.count(3) < coins; i++) {
             x.give(Math.min(99, coins - x.count(3)));
         }
         return x;

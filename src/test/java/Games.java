@@ -32,7 +32,7 @@ final class Games {
     /** As game, with so many coins, of at most 28, and a history of checks. */
     static void coins(SoldLetters x, int left) {
         game(x);
-        while (x.count(3) > left) {
+        for (int i = 0; i < 30 && x.count(3) > left; i++) {
             x.check(0);
         }
     }
@@ -48,7 +48,7 @@ final class Games {
     /** As game, with a full list. */
     static void full(SoldLetters x) {
         game(x);
-        while (x.count(2) > 0) {
+        for (int i = 0; i < 12 && x.count(2) > 0; i++) {
             x.dropWord(0);
         }
         Checks.words(x, TWELVE);

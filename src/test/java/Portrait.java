@@ -166,7 +166,7 @@ final class Portrait {
         }
         Checks.Script emptied = y -> {
             script.play(y);
-            while (y.count(2) > 0) {
+            for (int i = 0; i < MOST_LISTED && y.count(2) > 0; i++) {
                 y.dropWord(0);
             }
         };
